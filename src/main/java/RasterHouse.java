@@ -1249,24 +1249,16 @@ public final class RasterHouse {
             return points.count >= POINTS_WANTED[sort];
         }
 
-        /** The outline of what is covered as a ring is, made anew when points or pieces change. */
+        /** The ring of a wedge, ring or curve, made anew when points or pieces change. */
         void trace() {
             outline.count = 0;
             if (!hasPointsWanted()) return;
-            if (sort == BOX || sort == PICTURE) traceCorners();
             if (sort == WEDGE || sort == RING) {
                 for (int i = 0; i < points.count; i++) outline.add(points.x[i], points.y[i]);
             }
             if (sort == CURVE) {
                 for (int i = 0; i + 2 < points.count; i += 2) traceArc(i);
             }
-        }
-
-        private void traceCorners() {
-            outline.add(points.x[0], points.y[0]);
-            outline.add(points.x[1], points.y[0]);
-            outline.add(points.x[1], points.y[1]);
-            outline.add(points.x[0], points.y[1]);
         }
 
         private void traceArc(int first) {
@@ -1336,11 +1328,18 @@ public final class RasterHouse {
         boolean covers(int a, int b) {
             if (!hasPointsWanted()) return false;
             switch (sort) {
+                case BOX:
+                case PICTURE: return boxCovers(a, b);
                 case STROKE: return strokeCovers(a, b);
                 case OVAL: return ovalCovers(a, b);
                 case TEXT: return textCovers(a, b);
                 default: return outlineCovers(a, b);
             }
+        }
+
+        /** A ring of four corners covers what lies between both along x and along y. */
+        private boolean boxCovers(int a, int b) {
+            return a < points.x[0] != a < points.x[1] && b < points.y[0] != b < points.y[1];
         }
 
         private boolean outlineCovers(int a, int b) {
