@@ -1274,15 +1274,23 @@ public final class RasterHouse {
             return n < 1 ? along[first] : Math.floorDiv(sum, n * n);
         }
 
+        /** The parts of a group or clip are measured. */
         void measure() {
+            switch (sort) {
+                case GROUP: measureGroup(); break;
+                case CLIP: measureClip(); break;
+                default: measureLeaf();
+            }
+        }
+
+        /** Of sorts 0 to 7. */
+        void measureLeaf() {
             box.set(0, 0, 0, 0);
             if (!hasPointsWanted()) return;
             switch (sort) {
                 case CURVE: box.setAround(outline, 0, 0); break;
                 case STROKE: box.setAround(points, style[ENDS] == 2 ? 2 * style[HALF] : style[HALF], 1); break;
                 case TEXT: measureText(); break;
-                case GROUP: measureGroup(); break;
-                case CLIP: measureClip(); break;
                 default: box.setAround(points, 0, 0);
             }
         }
@@ -1296,11 +1304,13 @@ public final class RasterHouse {
         }
 
         private void measureGroup() {
+            box.set(0, 0, 0, 0);
             for (int i = 0; i < partCount; i++) box.unite(parts[i].box);
             box.setMoved(box, offsetX, offsetY);
         }
 
         private void measureClip() {
+            box.set(0, 0, 0, 0);
             if (partCount < 2 || parts[0].box.isEmpty() || parts[1].box.isEmpty()) return;
             box.setCommon(parts[0].box, parts[1].box);
             box.setMoved(box, offsetX, offsetY);
@@ -1533,11 +1543,14 @@ public final class RasterHouse {
             int below = Math.min(v + 1, p.height - 1);
             int f = across % 256;
             int g = down % 256;
+            int first = p.textureAt(u, v);
+            int second = p.textureAt(right, v);
+            int third = p.textureAt(u, below);
+            int fourth = p.textureAt(right, below);
             int mixed = 0;
             for (int shift = 0; shift < 32; shift += 8) {
-                int upper = (p.textureAt(u, v) >>> shift & 255) * (256 - f) + (p.textureAt(right, v) >>> shift & 255) * f;
-                int lower = (p.textureAt(u, below) >>> shift & 255) * (256 - f)
-                    + (p.textureAt(right, below) >>> shift & 255) * f;
+                int upper = (first >>> shift & 255) * (256 - f) + (second >>> shift & 255) * f;
+                int lower = (third >>> shift & 255) * (256 - f) + (fourth >>> shift & 255) * f;
                 mixed |= (upper * (256 - g) + lower * g) / 65536 << shift;
             }
             return mixed;
@@ -1588,7 +1601,7 @@ public final class RasterHouse {
             leaf.dx = x;
             leaf.dy = y;
             leaf.frameCount = 0;
-            s.measure();
+            s.measureLeaf();
             leaf.box.setMoved(s.box, x, y);
             for (int i = 0; i < frameCount; i++) leaf.addFrame(frames[i], frameX[i], frameY[i]);
         }

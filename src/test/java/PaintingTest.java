@@ -274,6 +274,12 @@ public final class PaintingTest {
             r.put(0, 0, 0, -58);
             r.paint(0, NONE, 0, 0);
             Check.number("the rest has the sign of what is divided", r.glow(0, 0, 0), -2.25);
+            r.put(0, 0, 0, -40);
+            r.paint(0, NONE, 0, 0);
+            Check.number("no rest", r.glow(0, 0, 0), 0);
+            r.put(0, 0, 0, 4);
+            r.paint(0, NONE, 0, 0);
+            Check.number("all is rest", r.glow(0, 0, 0), 0.5);
             r.style(0, 11, 0);
             r.paint(0, NONE, 0, 0);
             Check.number("the rest by 0 is no number", r.glow(0, 0, 0), -1);
@@ -632,5 +638,16 @@ public final class PaintingTest {
         q.plane(1, 1, 1);
         for (int i = 0; i < 500; i++) q.copy(0, 0, 0, 1, 1, 0, 0, 0);
         Check.due("copies", q.told(4), 8000);
+        RasterHouse n = new RasterHouse();
+        n.plane(1, 32, 32);
+        box(n, 0, 0, 9, 9);
+        int m = n.shape(8), o = n.shape(8);
+        for (int i = 0; i < 8; i++) n.join(m, 0);
+        for (int i = 0; i < 8; i++) n.join(o, m);
+        for (int i = 0; i < 15; i++) n.paint(0, NONE, o, 0);
+        for (int i = 0; i < 4; i++) n.paint(0, NONE, m, 0);
+        for (int i = 0; i < 7; i++) n.paint(0, NONE, 0, 0);
+        Check.due("the last copy", n.copy(0, 0, 0, 1, 1, 0, 0, 0), 1);
+        Check.due("spent", n.told(4), 16000);
     }
 }

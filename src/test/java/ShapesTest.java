@@ -126,6 +126,7 @@ public final class ShapesTest {
         for (int i = 1; i <= 7; i++) make(r, 8);
         for (int i = 1; i <= 6; i++) Check.due("six deep", r.join(i, i - 1), 1);
         Check.due("deep", r.look(6, 7), 6);
+        Check.due("a leaf six deep", r.hit(6, 128, 128), 0);
         Check.due("seven deep", r.join(7, 6), FULL);
         Check.due("a group that is refused is no part", r.join(6, 0), 2);
         make(r, 8);
@@ -233,6 +234,8 @@ public final class ShapesTest {
         Check.due("covers none", r.covered(3, 0, 0), 0);
         make(r, 0, 5, 5, 5, 900);
         empty("a box without width", r, 4);
+        r.move(4, 2, 2);
+        empty("a box without width", r, 4);
         make(r, 0, 8, 8, 9, 9);
         Check.due("the first sample alone", r.covered(5, 0, 0), 1);
         make(r, 0, 0, 0, 24, 256);
@@ -242,14 +245,15 @@ public final class ShapesTest {
         make(r, 0, 0, 0, 256, 25);
         Check.due("samples at y 8 and 24 (k = 0, 13)", r.covered(8, 0, 0), 2);
         Check.due("a seat", r.covered(8, 31, 31), 0);
+        empty("a box without height", r, make(r, 0, 5, 5, 900, 5));
         Check.due("no seat", r.covered(8, 32, 0), OUTSIDE);
         Check.due("no seat", r.covered(8, 0, -1), OUTSIDE);
-        Check.due("covered of none", r.covered(9, 0, 0), UNKNOWN);
-        Check.due("hit of none", r.hit(9, 0, 0), UNKNOWN);
+        Check.due("covered of none", r.covered(10, 0, 0), UNKNOWN);
+        Check.due("hit of none", r.hit(10, 0, 0), UNKNOWN);
         Check.due("hit outside", r.hit(8, -4097, 0), OUTSIDE);
         Check.due("hit outside", r.hit(8, 0, 12288), OUTSIDE);
         Check.due("hit far out", r.hit(8, -4096, 12287), NONE);
-        Check.due("bounds of none", r.bounds(9, 0), UNKNOWN);
+        Check.due("bounds of none", r.bounds(10, 0), UNKNOWN);
         Check.due("bounds what", r.bounds(8, 5), OUTSIDE);
         Check.due("bounds what", r.bounds(8, -1), OUTSIDE);
     }
@@ -267,11 +271,19 @@ public final class ShapesTest {
         r.point(0, -500, 400);
         box("two arcs", r, 0, -500, 0, 444, 1001);
         Check.due("the second arc's", r.hit(0, -100, 200), 0);
+        int twice = make(r, 4, 0, 0, 900, 0, 900, 900, 0, 900, 0, 0, 900, 0, 900, 900, 0, 900, 0, 0);
+        r.style(twice, 9, 2);
+        Check.due("twice around by rule 0", r.hit(twice, 450, 450), NONE);
+        r.style(twice, 8, 1);
+        Check.due("twice around by rule 1", r.hit(twice, 450, 450), twice);
         make(r, 4, -3, -3, -3, -3, -3, -3);
-        Check.due("floor below 0", r.bounds(1, 4), 1);
-        make(r, 4, -1, 0, 0, 0, 0, 100);
-        r.style(2, 9, 2);
-        Check.due("floor of -1 / 4", r.bounds(2, 0), -1);
+        Check.due("all at one place", r.bounds(2, 4), 1);
+        make(r, 4, 0, 0, 0, 0, -1, 100);
+        r.style(3, 9, 2);
+        box("floor of -1 / 4 is -1", r, 3, -1, 0, 0, 100);
+        make(r, 4, 0, 0, 0, -3, 0, 0, 5, 0, 5, 0);
+        r.style(4, 9, 2);
+        Check.due("floor of -6 / 4", r.bounds(4, 1), -2);
     }
 
     private static void ovals() {
@@ -316,6 +328,14 @@ public final class ShapesTest {
         make(r, 3, 0, 0);
         empty("of one point", r, 1);
         Check.due("covers none", r.hit(1, 0, 0), NONE);
+        make(r, 3, 0, 0, 0, 0, 1000, 0);
+        r.style(2, 6, 2);
+        Check.due("a first leg without length has no end", r.hit(2, -1, 0), NONE);
+        Check.due("nor covers it", r.hit(2, -100, 50), NONE);
+        Check.due("the last leg's end", r.hit(2, 1100, 100), 2);
+        Check.due("the last leg has no first end", r.hit(2, 0, 0), 2);
+        r.style(2, 7, 1);
+        Check.due("but a point between two legs", r.hit(2, -100, 0), 2);
     }
 
     private static void texts() {
@@ -341,6 +361,16 @@ public final class ShapesTest {
         make(r, 6);
         r.say(1, 0);
         empty("no point", r, 1);
+        r.glyph(0, -1, 8);
+        make(r, 0, -4000, -4000, 8000, 8000);
+        make(r, 9);
+        r.join(3, 0);
+        r.join(3, 2);
+        Check.due("a text as frame", r.hit(3, 100, 200), 2);
+        Check.due("to its last line", r.hit(3, 100, 327), 2);
+        Check.due("not beyond", r.hit(3, 100, 328), NONE);
+        Check.due("not above", r.hit(3, 100, 199), NONE);
+        Check.due("not ahead", r.hit(3, 99, 200), NONE);
     }
 
     private static void nests() {
