@@ -27,6 +27,7 @@ public final class ActEdgesTest {
         twentyOfManyKinds();
         actsForgotten();
         jobsAsActs();
+        jobsOfAllTiles();
         whatStays();
         undoneRows();
         counts();
@@ -195,6 +196,12 @@ public final class ActEdgesTest {
         Check.due("holes beside it are none", r.copy(0, 0, 0, 1, 1, 0, 0, 0), INDEX);
         r.tile(0, 0, 0, 1, 2);
         Check.due("holes beside it are none", r.copy(0, 0, 0, 1, 1, 0, 1, 0), 1);
+        RasterHouse q = new RasterHouse();
+        q.plane(1, 24, 24);
+        q.plane(1, 24, 24);
+        for (int i = 0; i < 9; i++) if (i != 4) q.tile(i % 2, i % 3, i / 3, 5, 64);
+        for (int i = 0; i < 9; i++) if (i != 4) q.tile(1 - i % 2, i % 3, i / 3, 1, 0);
+        Check.due("holes all around are none", q.copy(0, 8, 8, 8, 8, 1, 8, 8), 8);
     }
 
     /** "(by pairs from the left, of the first PLANE, then the other)". */
@@ -666,6 +673,37 @@ public final class ActEdgesTest {
             Check.due("behind it", r.size(0, 3), tiles);
             Check.due("the DEPTH PLANE behind it", r.dot(1, 0, 0), 0);
             Check.due("no more UNITS count", r.told(4), 4);
+        }
+    }
+
+    /** A JOB may change all TILES of its PLANE and of its DEPTH PLANE: all are taken back and done again. */
+    private static void jobsOfAllTiles() {
+        for (int order = 0; order < 2; order++) {
+            for (int way = 0; way < 2; way++) {
+                RasterHouse r = new RasterHouse();
+                r.plane(order == 0 ? 5 : 7, 32, 32);
+                r.plane(order == 0 ? 7 : 5, 32, 32);
+                int sums = order, lights = 1 - order;
+                r.blank(sums, 3);
+                for (int i = 0; i < 16; i += 3) r.put(sums, i % 4 * 8, i / 4 * 8, 50);
+                r.blank(lights, 80);
+                long before = r.digest(sums), deep = r.digest(lights);
+                int tiles = r.size(sums, 3);
+                int s = Edge.box(r, 0, 0, 8192, 8192);
+                r.style(s, 0, 1);
+                Check.due("UNITS", r.paint(sums, lights, s, way), 16);
+                Check.due("WRITTEN", r.done(2), 1024);
+                long after = r.digest(sums), deeper = r.digest(lights);
+                r.undo();
+                Check.due("the PLANE ahead of it", r.digest(sums), before);
+                Check.due("its TILES", r.size(sums, 3), tiles);
+                Check.due("the DEPTH PLANE ahead of it", r.digest(lights), deep);
+                Check.due("its TILES", r.size(lights, 3), 0);
+                r.redo();
+                Check.due("the PLANE behind it", r.digest(sums), after);
+                Check.due("the DEPTH PLANE behind it", r.digest(lights), deeper);
+                Check.due("its TILES", r.size(lights, 3), 16);
+            }
         }
     }
 

@@ -5,6 +5,7 @@ public final class PaintEdgesTest {
 
     public static void main(String[] args) {
         counts();
+        countsAtTheLastDots();
         countsThroughFrames();
         eightOrMore();
         masksByMode();
@@ -89,6 +90,25 @@ public final class PaintEdgesTest {
         int more = Edge.box(r, -4096, -4096, 12287, 12287);
         r.paint(0, NONE, more, 0);
         done("more than the PLANE", r, 2, 0, 0);
+    }
+
+    /** A LEAF that reaches one sample of a DOT alone, at the edges of TILES and of the PLANE. */
+    private static void countsAtTheLastDots() {
+        for (int dot : new int[] {0, 7, 8, 15, 16, 24, 31}) {
+            RasterHouse r = new RasterHouse();
+            r.plane(5, 32, 32);
+            int at = 256 * dot;
+            int[][] boxes = {{at + 8, at, at + 9, at + 256}, {at, at + 8, at + 256, at + 9}, {at + 248, at, at + 249, at + 256},
+                {at, at + 248, at + 256, at + 249}, {at, at, at + 256, at + 256}};
+            for (int[] b : boxes) {
+                int s = Edge.box(r, b[0], b[1], b[2], b[3]);
+                r.style(s, 0, 1);
+                r.paint(0, NONE, s, 0);
+                done("dot " + dot, r, 1, 0, 0);
+                Check.due("dot " + dot, r.dot(0, dot, dot), b[2] - b[0] == 256 && b[3] - b[1] == 256 ? 16 : 1);
+                r.undo();
+            }
+        }
     }
 
     /** "how many of these it COVERS, and all its FRAMES, too (as they lie moved)". */
@@ -381,7 +401,8 @@ public final class PaintEdgesTest {
         for (int[] h : others) grey(h[0], h[1], h[2], h[3]);
         // below 128: (2 * 127 * 200 + 127) / 255 = 199; from 128 on: 255 - (2 * 127 * 55 + 127) / 255 = 200
         int[][] halves = {{11, 127, 200, 199}, {11, 128, 200, 200}, {11, 0, 255, 0}, {11, 255, 0, 255}, {11, 127, 255, 254},
-            {11, 128, 0, 1}, {11, 127, 0, 0}, {11, 128, 255, 255}};
+            {11, 128, 0, 1}, {11, 127, 0, 0}, {11, 128, 255, 255}, {11, 1, 63, 0}, {11, 1, 64, 1}, {11, 1, 191, 1},
+            {11, 1, 192, 2}, {11, 254, 192, 255}, {11, 254, 191, 254}, {11, 254, 64, 254}, {11, 254, 63, 253}};
         for (int[] h : halves) grey(h[0], h[1], h[2], h[3]);
     }
 
@@ -394,6 +415,7 @@ public final class PaintEdgesTest {
             Check.due(v[1] + " over " + v[0] + " by " + v[2], r.dot(0, 0, 0), v[3]);
         }
         Check.due("d - s is 0 at least, by half", painted(1, 10, 8, 0, 20, 3, 3).dot(0, 0, 0), 5);
+        Check.due("d - s is 0 at least, by half", painted(1, 1, 8, 0, 2, 3, 3).dot(0, 0, 0), 1);
         Check.due("s + d is 255 at most, by half", painted(1, 200, 8, 0, 200, 3, 2).dot(0, 0, 0), 228);
     }
 
@@ -539,6 +561,11 @@ public final class PaintEdgesTest {
         light(11, 20, -2.625, -0.125);
         light(11, -20, -2.625, -0.125);
         light(11, 20, 0, 0);
+        light(11, 20, 0.5, 0.5);
+        light(11, 20, -0.5, -0.5);
+        light(11, 4, 1, 0);
+        light(11, 4, -1, 0);
+        light(11, 5, 1, 0.375);
         light(11, 1, 12345.875, 0);
         light(11, 8000, 2999.875, 999.875);
         light(11, 8000, -3000, 0);
@@ -568,6 +595,16 @@ public final class PaintEdgesTest {
         Check.due("127 * 3 / 384 is below 1", r.colour(1, 0, 0), 1);
         r.move(1, -1, 0);
         Check.due("128 * 3 / 384 is 1", r.colour(1, 0, 0), 2);
+        // 258 high from 0 on: the middle of dot 0 is one ahead of the second half
+        int tall = Edge.make(r, 7, 0, 0, 1152, 258);
+        r.style(tall, 13, 0);
+        Check.due("128 * 2 / 258 is below 1", r.colour(tall, 0, 0), 1);
+        r.move(tall, 0, -1);
+        Check.due("129 * 2 / 258 is 1", r.colour(tall, 0, 0), 11);
+        int thin = Edge.make(r, 7, 0, 0, 1, 1);
+        r.style(thin, 13, 0);
+        r.style(thin, 0, 77);
+        Check.due("BOUNDS of 1 by 1 are not EMPTY", r.colour(thin, 0, 0), 13);
         r.plane(1, 1, 1);
         r.put(1, 0, 0, 0xC5);
         r.style(1, 13, 1);
@@ -618,6 +655,59 @@ public final class PaintEdgesTest {
         Check.due("held across", r.colour(1, 3, 0), 0x00FF0000);
         Check.due("held down", r.colour(1, 0, 3), 0x0000FF00);
         roundedDownTexture();
+        stepsOfFineTextures();
+        fineTexturesByTiles();
+    }
+
+    /** U (or V) of 255, 256 and 257: the last way from the first DOT, the second itself, the first way from it. */
+    private static void stepsOfFineTextures() {
+        int[] due = {199, 200, 199};
+        for (int axis = 0; axis < 2; axis++) {
+            RasterHouse r = new RasterHouse();
+            r.plane(1, axis == 0 ? 3 : 1, axis == 0 ? 1 : 3);
+            int[] greys = {0, 200, 100};
+            for (int i = 0; i < 3; i++) r.put(0, axis == 0 ? i : 0, axis == 0 ? 0 : i, greys[i]);
+            for (int i = 0; i < 3; i++) {
+                int first = -255 - i;
+                int s = Edge.make(r, 7, axis == 0 ? first : 0, axis == 0 ? 0 : first, axis == 0 ? first + 768 : 768,
+                    axis == 0 ? 768 : first + 768);
+                r.style(s, 13, 0);
+                r.style(s, 14, 1);
+                Check.due("U " + (255 + i), r.colour(s, 0, 0), due[i] * 0x01010101);
+            }
+        }
+        RasterHouse r = new RasterHouse();
+        r.plane(1, 2, 2);
+        for (int i = 0; i < 4; i++) r.put(0, i % 2, i / 2, i == 3 ? 254 : 255);
+        int s = Edge.make(r, 7, -1, -1, 511, 511);
+        r.style(s, 13, 0);
+        r.style(s, 14, 1);
+        Check.due("cut, not rounded: f and g are 1", r.colour(s, 0, 0), 254 * 0x01010101);
+        r.plane(1, 1, 2);
+        r.put(1, 0, 0, 10);
+        r.put(1, 0, 1, 20);
+        int down = Edge.make(r, 7, 0, 0, 1024, 1024);
+        r.style(down, 13, 1);
+        r.style(down, 14, 1);
+        Check.due("V below 0 is held", r.colour(down, 0, 0), 10 * 0x01010101);
+        Check.due("V 64", r.colour(down, 0, 1), 12 * 0x01010101);
+    }
+
+    /** "(held at the border)", where the border is a TILE's and the PLANE's. */
+    private static void fineTexturesByTiles() {
+        for (int side : new int[] {1, 7, 8, 9, 16, 31, 32}) {
+            RasterHouse r = new RasterHouse();
+            r.plane(1, side, side);
+            r.blank(0, 50);
+            r.put(0, side - 1, side - 1, 90);
+            int s = Edge.make(r, 7, 0, 0, 256, 256);
+            r.style(s, 13, 0);
+            r.style(s, 14, 1);
+            Check.due("the last DOT of " + side, r.colour(s, 31, 31), 90 * 0x01010101);
+            Check.due("the last DOT of " + side, r.colour(s, 1, 1), 90 * 0x01010101);
+            r.style(s, 14, 0);
+            Check.due("the last DOT of " + side, r.colour(s, 31, 31), 90 * 0x01010101);
+        }
     }
 
     /** A bound that does not divide: FLOOR ahead of 128 less. */
@@ -676,8 +766,8 @@ public final class PaintEdgesTest {
             r.style(0, 10, grain);
             // t is 12, 38, 64, 89, 115, 140, 166, 192, 217, 243 at dots 0 to 9
             int[] due = {0xFF000000, 26 * 255 / 52 << 24 | 26 * 255 / 52 << 16 | 26 * 255 / 52, 0x00FF00FF,
-                51 * 255 / 76 << 16 | 255, 25 * 255 / 76 << 16 | 255, 0x000000FF};
-            for (int i = 0; i < 6; i++) {
+                51 * 255 / 76 << 16 | 255, 25 * 255 / 76 << 16 | 255, 0x000000FF, 0x000000BF, 0x00010180, 0x00010243};
+            for (int i = 0; i < 9; i++) {
                 Check.due("GRAIN " + grain + " at " + i, r.colour(0, grain == 1 ? i : 31, grain == 1 ? 31 : i), due[i]);
             }
             Check.due("the last place", r.colour(0, grain == 1 ? 9 : 0, grain == 1 ? 0 : 9), 0x01020304);
@@ -692,10 +782,21 @@ public final class PaintEdgesTest {
         q.stop(0, 0, 66);
         Check.due("held at 0: at most the first place", q.colour(0, 0, 0), 66);
         Check.due("one STOP is the last, too", q.colour(0, 31, 0), 66);
-        q.stop(0, 256, 99);
+        q.stop(0, 256, 255);
         Check.due("held at 0", q.colour(0, 0, 0), 66);
         // dot 31: (8064 - 4096) 256 / 4096 = 248
-        Check.due("between", q.colour(0, 31, 0), (66 * 8 + 99 * 248) / 256);
+        Check.due("between", q.colour(0, 31, 0), (66 * 8 + 255 * 248) / 256);
+        Edge.box(q, 4096, 0, 8192, 1);
+        q.style(1, 10, 1);
+        q.stop(1, 0, 255);
+        q.stop(1, 256, 0);
+        Check.due("held at 0, not above", q.colour(1, 0, 0), 255);
+        // dot 16: 128 * 256 / 4096 = 8
+        Check.due("between", q.colour(1, 16, 0), 255 * 248 / 256);
+        Edge.box(q, 0, 0, 1, 1);
+        q.style(2, 10, 1);
+        q.stop(2, 9, 5);
+        Check.due("BOUNDS of 1 by 1 are not EMPTY", q.colour(2, 0, 0), 5);
     }
 
     /** "COLOUR at DOT x, y .., by the LEAF's BOUNDS as it lies". */

@@ -16,6 +16,7 @@ public final class PlaneEdgesTest {
         nothingTellsTheBlank();
         holesOfAnotherKind();
         nothingBecomesARow();
+        rowsMadeAnew();
         nothingStaysByFaults();
         spoiledDots();
         newRows();
@@ -274,6 +275,23 @@ public final class PlaneEdgesTest {
         }
     }
 
+    /** A ROW that is new is all the BLANK, whatever the TILE had been: also what was no number is one then. */
+    private static void rowsMadeAnew() {
+        for (int kind = 6; kind < 8; kind++) {
+            RasterHouse r = new RasterHouse();
+            r.plane(kind, 16, 8);
+            for (int x = 0; x < 8; x++) r.spoil(0, x, 0);
+            r.wipe(0, 0, 0);
+            r.put(0, 0, 7, 1);
+            r.put(0, 8, 7, 1);
+            for (int x = 0; x < 16; x++) Check.due("a number", r.sort(0, x, 0), 0);
+            for (int i = 0; i < 22; i++) r.spoil(0, i % 8, i / 8);
+            r.wipe(0, 0, 0);
+            for (int i = 0; i < 22; i++) r.put(0, 0, 0, 0);
+            for (int x = 0; x < 8; x++) Check.due("a number", r.sort(0, x, 1), 0);
+        }
+    }
+
     /** What becomes nothing leaves NOTHING: grades, masks of none, paintings of too few samples, faults, undo. */
     private static void nothingStaysByFaults() {
         RasterHouse r = new RasterHouse();
@@ -402,6 +420,31 @@ public final class PlaneEdgesTest {
         Check.due("turned", r.sort(6, 0, 0), 2);
         Check.due("turned", r.sort(6, 1, 1), 1);
         lightsAboveAll();
+        theGreatestLight();
+    }
+
+    /** (2^53 - 1) by 8, 108 times by 512 and twice by 2: each step is exact, and the last number is the greatest double. */
+    private static void theGreatestLight() {
+        RasterHouse r = new RasterHouse();
+        r.plane(7, 1, 1);
+        r.put(0, 0, 0, 9007199254740991L);
+        int whole = Edge.box(r, 0, 0, 256, 256);
+        r.style(whole, 3, 4);
+        r.style(whole, 11, 4096);
+        for (int i = 0; i < 108; i++) r.paint(0, NONE, whole, 0);
+        r.grade(0, 7);
+        r.grade(0, 7);
+        Check.number("the greatest double", r.glow(0, 0, 0), Double.MAX_VALUE);
+        Check.due("is a number", r.sort(0, 0, 0), 0);
+        r.grade(0, 5);
+        Check.number("the least double", r.glow(0, 0, 0), -Double.MAX_VALUE);
+        Check.due("is a number", r.sort(0, 0, 0), 0);
+        r.grade(0, 7);
+        Check.due("twice it is not", r.sort(0, 0, 0), 2);
+        r.undo();
+        r.style(whole, 3, 11);
+        r.paint(0, NONE, whole, 0);
+        Check.number("its rest is far less than it", r.glow(0, 0, 0), 0.0);
     }
 
     /** 1.0 is doubled by painting v * 1000 first, since a double wants 1024 doublings. */

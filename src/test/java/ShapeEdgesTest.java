@@ -20,6 +20,8 @@ public final class ShapeEdgesTest {
         leavesAndWhereTheyLie();
         framesAndWhereTheyLie();
         fewerPointsThanWanted();
+        framesOfFewerPoints();
+        shapesThatWereMoved();
         samplesOfADot();
         pointsThatCanBeHit();
         edgesOfRings();
@@ -32,7 +34,11 @@ public final class ShapeEdgesTest {
         roundJoinsAndEnds();
         squareEnds();
         legsWithoutLength();
+        legsOfOddSlopes();
         bitsOfGlyphs();
+        glyphsAtFirst();
+        lettersAlone();
+        textsAsFrames();
         advances();
         units();
         boundsOfLeaves();
@@ -337,6 +343,18 @@ public final class ShapeEdgesTest {
         Check.due("each where it lies", r.hit(7, 4096, 4096), 0);
         Check.due("nowhere else", r.hit(7, 2000, 2000), NONE);
         Check.due("a LEAF itself lies as it is", r.hit(0, -4096, -3841), 0);
+        RasterHouse q = new RasterHouse();
+        Edge.box(q, 0, 0, 256, 256);
+        Edge.nest(q, 9, 0, 0);
+        for (int i = 2; i <= 6; i++) Edge.nest(q, i == 4 ? 9 : 8, i == 4 ? new int[] {0, 3} : new int[] {i - 1});
+        q.move(6, 100, 0);
+        q.move(4, 10, 0);
+        q.move(1, 1, 0);
+        Check.due("six DEEP", q.look(6, 7), 6);
+        Check.due("by all of six", q.hit(6, 111, 0), 0);
+        Check.due("ahead of it", q.hit(6, 110, 0), NONE);
+        Check.due("the outer FRAME ends it", q.hit(6, 366, 0), NONE);
+        Check.due("up to there", q.hit(6, 365, 0), 0);
     }
 
     /** "and has the FRAMES of all such CLIPS, each moved by the OFFSETS of its CLIP and of all around that". */
@@ -384,6 +402,47 @@ public final class ShapeEdgesTest {
             Check.due("not empty with all, sort " + sort, r.bounds(0, 4), 0);
             int[][] inside = {{0, 0}, {500, 500}, {200, 700}, {-100, 500}, {0, 700}, {0, 1300}, {-100, -100}, {-100, 1000}};
             Check.due("covers some with all, sort " + sort, r.hit(0, inside[sort][0], inside[sort][1]), 0);
+        }
+    }
+
+    /** A FRAME with fewer POINTS than wanted covers none, so nothing is seen through it. */
+    private static void framesOfFewerPoints() {
+        int[] at = {-200, -200, 3000, -100, 100, 3000};
+        for (int sort = 0; sort < 8; sort++) {
+            for (int n = 0; n < WANTED[sort]; n++) {
+                RasterHouse r = new RasterHouse();
+                r.shape(sort);
+                r.glyph(0, -1L, 8);
+                if (sort == 6) r.say(0, 0);
+                r.style(0, 6, 1);
+                for (int i = 0; i < n; i++) r.point(0, at[2 * i], at[2 * i + 1]);
+                Edge.box(r, -4096, -4096, 12287, 12287);
+                Edge.nest(r, 9, 0, 1);
+                int[][] points = {{-200, -200}, {-100, -100}, {-1, -1}, {0, 0}, {50, 50}, {1000, -150}, {3000, -100}};
+                for (int[] q : points) Check.due("sort " + sort + " with " + n, r.hit(2, q[0], q[1]), NONE);
+                Check.due("sort " + sort + " with " + n, r.covered(2, 0, 0), 0);
+                Edge.empty("sort " + sort + " with " + n, r, 2);
+            }
+        }
+    }
+
+    /** "All POINTS of a SHAPE go by dx, dy": what it covers goes with them. */
+    private static void shapesThatWereMoved() {
+        int[] at = {0, 0, 1000, 100, 100, 1000};
+        int[][] inside = {{500, 50}, {300, 300}, {300, 300}, {500, 50}, {300, 300}, {500, 50}, {5, 5}, {500, 50}};
+        for (int sort = 0; sort < 8; sort++) {
+            RasterHouse r = new RasterHouse();
+            r.glyph(0, -1L, 8);
+            r.shape(sort);
+            if (sort == 6) r.say(0, 0);
+            for (int i = 0; i < WANTED[sort]; i++) r.point(0, at[2 * i], at[2 * i + 1]);
+            hits("sort " + sort, r, 0, inside[sort][0], inside[sort][1], true);
+            int x0 = r.bounds(0, 0), y1 = r.bounds(0, 3);
+            Check.due("move", r.move(0, 2000, -1500), 1);
+            hits("sort " + sort + " moved", r, 0, inside[sort][0], inside[sort][1], false);
+            hits("sort " + sort + " moved", r, 0, inside[sort][0] + 2000, inside[sort][1] - 1500, true);
+            Check.due("X0", r.bounds(0, 0), x0 + 2000);
+            Check.due("Y1", r.bounds(0, 3), y1 - 1500);
         }
     }
 
@@ -522,6 +581,10 @@ public final class ShapeEdgesTest {
         r.style(2, 8, 1);
         hits("rule 1, the sum is below 0", r, 2, 300, 300, true);
         hits("rule 1, the sum is below 0", r, 2, 700, 700, true);
+        int curve = Edge.make(r, 4, 0, 0, 900, 0, 900, 900, 0, 900, 0, 0, 900, 0, 900, 900, 0, 900, 0, 0);
+        hits("a CURVE twice around, rule 0", r, curve, 450, 450, false);
+        r.style(curve, 8, 1);
+        hits("a CURVE twice around, rule 1", r, curve, 450, 450, true);
     }
 
     /** "its EDGES go from POINT to POINT, the last to the first", of up to 12. */
@@ -589,6 +652,11 @@ public final class ShapeEdgesTest {
             hits("the fourth arc of " + n, r, 0, -201, 400, false);
         }
         Edge.bounds("of 8", r, 0, -200, 0, 800, 800);
+        // the last of all 36 points is far out
+        Edge.make(r, 4, 0, 0, 0, 0, 0, 0, 0, 0, 0, 0, 0, 0, 0, 100, 0, 100, 3000, 100);
+        r.style(1, 9, 8);
+        Edge.bounds("the last of 36", r, 1, 0, 0, 3000, 100);
+        hits("the last of 36", r, 1, 1500, 75, true);
     }
 
     /** "FLOOR of (p (n - i) (n - i) + 2 q i (n - i) + r i i) / (n n), in x and in y". */
@@ -631,13 +699,18 @@ public final class ShapeEdgesTest {
         hits("beside it", r, 1, 0, 1, false);
         Edge.make(r, 5, 0, 0, 0, 500);
         hits("without width", r, 2, 0, 250, false);
-        Edge.make(r, 5, 0, 7, 500, 7);
-        hits("without height", r, 3, 250, 7, false);
-        Edge.make(r, 5, -4096, -4096, 12287, 12287);
-        hits("as large as can be", r, 4, -4095, 4095, true);
-        hits("as large as can be", r, 4, -4096, 4095, false);
-        hits("as large as can be", r, 4, 12286, 4096, true);
-        hits("its corner", r, 4, -4096, -4096, false);
+        int far = Edge.make(r, 5, 1000, 2000, 1200, 2400);
+        int[][] in = {{1100, 2200}, {1001, 2200}, {1199, 2200}, {1100, 2001}, {1100, 2399}, {1160, 2359}};
+        int[][] out = {{1000, 2200}, {1200, 2200}, {1100, 2000}, {1100, 2400}, {1160, 2360}};
+        for (int[] p : in) hits("farther out", r, far, p[0], p[1], true);
+        for (int[] p : out) hits("farther out", r, far, p[0], p[1], false);
+        int flat = Edge.make(r, 5, 0, 7, 500, 7);
+        hits("without height", r, flat, 250, 7, false);
+        int large = Edge.make(r, 5, -4096, -4096, 12287, 12287);
+        hits("as large as can be", r, large, -4095, 4095, true);
+        hits("as large as can be", r, large, -4096, 4095, false);
+        hits("as large as can be", r, large, 12286, 4096, true);
+        hits("its corner", r, large, -4096, -4096, false);
     }
 
     /** "it is covered, if t is 0 .. l (and l is above 0) and c c is at most HALF HALF l"; "HALF (1 .. 1024, 128)". */
@@ -744,6 +817,81 @@ public final class ShapeEdgesTest {
         Edge.make(r, 3, 0, 0, 0, 0, 0, 0);
         r.style(2, 7, 1);
         hits("a POINT between two LEGS without length", r, 2, 128, 0, true);
+    }
+
+    /** A LEG of 3, 4: points with t -1, 0, l and l + 1 lie beside it. */
+    private static void legsOfOddSlopes() {
+        RasterHouse r = new RasterHouse();
+        Edge.make(r, 3, 0, 0, 3, 4);
+        r.style(0, 5, 2);
+        hits("t is -1", r, 0, 1, -1, false);
+        hits("t is 0", r, 0, 0, 0, true);
+        hits("t is 1", r, 0, -1, 1, true);
+        hits("t is l", r, 0, 3, 4, true);
+        hits("t is l + 1", r, 0, 2, 5, false);
+        hits("t is l - 1", r, 0, 4, 3, true);
+        hits("c c is 100 of 100", r, 0, 4, 2, true);
+        hits("c c is 121 of 100", r, 0, 2, -1, false);
+        r.style(0, 6, 2);
+        hits("t is -1 at a square end", r, 0, 1, -1, true);
+        hits("t is l + 1 at a square end", r, 0, 2, 5, true);
+        hits("t is -10 at a square end", r, 0, -2, -1, true);
+        hits("t is -11 at a square end", r, 0, -1, -2, false);
+    }
+
+    /** "an ADVANCE 1 .. 16 (8 at first, all bits 0)"; a new object's "GLYPHS of 0s". */
+    private static void glyphsAtFirst() {
+        for (int g = 0; g < 16; g++) {
+            RasterHouse r = new RasterHouse();
+            Edge.make(r, 6, 0, 0);
+            r.style(0, 12, 32);
+            r.say(0, g);
+            for (int y = 0; y < 2; y++) for (int x = 0; x < 2; x++) Check.due("all bits 0", r.covered(0, x, y), 0);
+            r.say(0, g);
+            Edge.bounds("8 at first", r, 0, 0, 0, 512, 256);
+        }
+    }
+
+    /** A TEXT has its own LETTERS alone, and of a line of bits those 0 .. 7. */
+    private static void lettersAlone() {
+        RasterHouse r = new RasterHouse();
+        r.glyph(0, -1L, 1);
+        r.glyph(1, 0, 1);
+        r.glyph(2, 0x01FF000000000000L, 8);
+        int blank = Edge.make(r, 6, 0, 0);
+        r.style(blank, 12, 16);
+        for (int i = 1; i <= 8; i++) {
+            r.say(blank, 1);
+            for (int a = 0; a < 128; a += 16) Check.due("no other LETTER behind it", r.hit(blank, a, 5), NONE);
+        }
+        int two = Edge.make(r, 6, 0, 0);
+        r.style(two, 12, 16);
+        r.glyph(3, 0, 8);
+        r.glyph(4, 0x0100000000000080L, 8);
+        r.say(two, 3);
+        r.say(two, 4);
+        r.say(two, 3);
+        Check.due("its first line's last bit", r.hit(two, 15 * 16, 5), two);
+        Check.due("is not ahead of its second line", r.hit(two, 7 * 16, 16 + 5), NONE);
+        Check.due("its last line's first bit", r.hit(two, 8 * 16, 7 * 16), two);
+        Check.due("is not behind the line above", r.hit(two, 16 * 16, 6 * 16), NONE);
+        Check.due("nor behind itself", r.hit(two, 16 * 16, 7 * 16), NONE);
+    }
+
+    /** "covered, if j is 0 .. 7", also of a FRAME, which has no BOUNDS to end it. */
+    private static void textsAsFrames() {
+        RasterHouse r = new RasterHouse();
+        r.glyph(0, -1L, 8);
+        Edge.make(r, 6, 100, 200);
+        r.style(0, 12, 16);
+        r.say(0, 0);
+        r.say(0, 0);
+        Edge.box(r, -4096, -4096, 12287, 12287);
+        Edge.nest(r, 9, 0, 1);
+        int[][] in = {{100, 200}, {355, 200}, {100, 327}, {355, 327}, {227, 250}, {228, 250}};
+        int[][] out = {{99, 200}, {356, 200}, {100, 199}, {100, 328}, {100, 72}, {100, 4000}, {-4096, 250}, {100, -4096}};
+        for (int[] p : in) Check.due("through its LETTERS", r.hit(2, p[0], p[1]), 1);
+        for (int[] p : out) Check.due("not beside them", r.hit(2, p[0], p[1]), NONE);
     }
 
     /** "each has 8 lines of 8 bits (a long, the highest bit the first of the first line)"; GLYPHS 0 .. 15. */
@@ -873,6 +1021,29 @@ public final class ShapeEdgesTest {
         int far = Edge.nest(r, 8, gone);
         r.move(far, 50, 50);
         Edge.empty("moved it is EMPTY yet", r, far);
+        boundsAsTheyAreThen();
+    }
+
+    /** BOUNDS are told of PARTS as they are then, also if these become EMPTY. */
+    private static void boundsAsTheyAreThen() {
+        RasterHouse r = new RasterHouse();
+        int curve = Edge.make(r, 4, 0, 0, 800, 0, 0, 800), box = Edge.box(r, 0, 0, 100, 100);
+        int clip = Edge.nest(r, 9, box, curve), back = Edge.nest(r, 9, curve, box), group = Edge.nest(r, 8, curve);
+        for (int i = 0; i < 2; i++) {
+            r.style(curve, 9, 2);
+            Edge.bounds("a CLIP", r, clip, 0, 0, 100, 100);
+            Edge.bounds("a CLIP", r, back, 0, 0, 100, 100);
+            Edge.bounds("a GROUP", r, group, 0, 0, 400, 800);
+            r.style(curve, 9, 1);
+            Edge.empty("its PART is EMPTY then", r, clip);
+            Edge.empty("its FRAME is EMPTY then", r, back);
+            Edge.empty("its PART is EMPTY then", r, group);
+        }
+        r.style(curve, 9, 2);
+        r.move(box, 500, 0);
+        Edge.empty("they have nothing in common then", r, clip);
+        r.move(box, -200, 0);
+        Edge.bounds("they have again", r, clip, 300, 0, 400, 100);
     }
 
     /** "WEIGHT: of a RING 2 for each of its own POINTS, as many as it has; of BOX, WEDGE that of a RING, and 1; .." */
