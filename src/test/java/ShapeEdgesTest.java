@@ -35,6 +35,7 @@ public final class ShapeEdgesTest {
         squareEnds();
         legsWithoutLength();
         legsOfOddSlopes();
+        strokesOfTwelve();
         bitsOfGlyphs();
         glyphsAtFirst();
         lettersAlone();
@@ -817,6 +818,34 @@ public final class ShapeEdgesTest {
         Edge.make(r, 3, 0, 0, 0, 0, 0, 0);
         r.style(2, 7, 1);
         hits("a POINT between two LEGS without length", r, 2, 128, 0, true);
+    }
+
+    /** Stairs of 12 POINTS: the last LEG, each POINT between two, and both ends. */
+    private static void strokesOfTwelve() {
+        RasterHouse r = new RasterHouse();
+        r.shape(3);
+        for (int i = 0; i < 12; i++) r.point(0, 500 * ((i + 1) / 2), 500 * (i / 2));
+        r.style(0, 5, 50);
+        Edge.bounds("12 POINTS", r, 0, -50, -50, 3051, 2551);
+        for (int i = 0; i < 11; i++) hits("LEG " + i, r, 0, 500 * ((i + 1) / 2) + (i % 2 == 0 ? 250 : 50), 500 * (i / 2) + (i % 2 == 0 ? 50 : 250), true);
+        for (int join = 0; join < 2; join++) {
+            r.style(0, 7, join);
+            // the outer side of each corner: right and up, or left and down
+            for (int i = 1; i < 11; i++) {
+                int side = i % 2 == 1 ? 30 : -30;
+                hits("POINT " + i, r, 0, 500 * ((i + 1) / 2) + side, 500 * (i / 2) - side, join == 1);
+            }
+            hits("the first POINT", r, 0, -30, 0, false);
+            hits("the last POINT", r, 0, 3030, 2500, false);
+        }
+        for (int ends = 1; ends < 3; ends++) {
+            r.style(0, 6, ends);
+            hits("the first POINT", r, 0, -50, 0, true);
+            hits("the last POINT", r, 0, 3050, 2500, true);
+            hits("a corner of the first end", r, 0, -50, 50, ends == 2);
+            hits("a corner of the last end", r, 0, 3050, 2450, ends == 2);
+            hits("beyond the last POINT", r, 0, 3051, 2500, false);
+        }
     }
 
     /** A LEG of 3, 4: points with t -1, 0, l and l + 1 lie beside it. */
